@@ -1,7 +1,10 @@
 import java.lang.reflect.InvocationTargetException;
 import java.lang.reflect.Method;
 import java.util.ArrayList;
+import java.util.Arrays;
+import java.util.HashMap;
 import java.util.List;
+import java.util.Map;
 import java.util.NoSuchElementException;
 import java.util.Set;
 
@@ -10,6 +13,8 @@ final class Calls {
     private static final Set<Class<?>> DOCUMENTED = Set.of(
             IndexOutOfBoundsException.class, IllegalArgumentException.class, IllegalStateException.class,
             UnsupportedOperationException.class, NoSuchElementException.class, ArithmeticException.class);
+
+    private static final Map<String, Method> METHODS = new HashMap<>();
 
     private Calls() {
     }
@@ -40,10 +45,8 @@ final class Calls {
         for (char what : new char[] {'t', 'd', 'h'}) {
             parts.add(what + answer(bus, "packets", what));
         }
-        for (int i = 0; i < 32; i++) {
-            parts.add("got" + answer(bus, "gotAt", i));
-        }
-        for (int device = -1; device < 16; device++) {
+        addBytes(parts, bus, "gotAt");
+        for (int device = -1; device < 0 || !answer(bus, "stateOf", device).startsWith("throws"); device++) {
             addDevice(parts, bus, device);
         }
         for (int pipe = 0; pipe < 12; pipe++) {
@@ -65,22 +68,31 @@ final class Calls {
         }
         for (int endpoint = 1; endpoint <= 3; endpoint++) {
             parts.add("waiting" + answer(bus, "waiting", device, endpoint));
-            String taken = answer(bus, "taken", device, endpoint);
-            parts.add("taken" + taken);
-            for (int index = 0; index < 32 && !taken.startsWith("throws") && !taken.equals("0"); index++) {
-                parts.add("byte" + answer(bus, "takenAt", device, endpoint, index));
-            }
+            parts.add("taken" + answer(bus, "taken", device, endpoint));
+            addBytes(parts, bus, "takenAt", device, endpoint);
+        }
+    }
+
+    private static void addBytes(List<String> parts, Object bus, String name, Object... place) {
+        String got = "";
+        for (int index = 0; index < 40 && !got.startsWith("throws"); index++) {
+            Object[] arguments = Arrays.copyOf(place, place.length + 1);
+            arguments[place.length] = index;
+            got = answer(bus, name, arguments);
+            parts.add("byte" + got);
         }
     }
 
     private static Method find(Object bus, String name, int arity) {
-        for (Method method : bus.getClass().getDeclaredMethods()) {
-            if (method.getName().equals(name) && method.getParameterCount() == arity) {
-                method.setAccessible(true);
-                return method;
+        return METHODS.computeIfAbsent(bus.getClass().getName() + " " + name + " " + arity, key -> {
+            for (Method method : bus.getClass().getDeclaredMethods()) {
+                if (method.getName().equals(name) && method.getParameterCount() == arity) {
+                    method.setAccessible(true);
+                    return method;
+                }
             }
-        }
-        throw new IllegalStateException("there is no method " + name + " of " + arity + " parameters");
+            throw new IllegalStateException("there is no method " + key);
+        });
     }
 
     // What the machine throws by itself is told apart by its top frame or its message.

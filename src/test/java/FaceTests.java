@@ -63,6 +63,11 @@ final class FaceTests {
         Check.is("at most 12 classes", Hubcascade.class.getDeclaredClasses().length < 12, true);
     }
 
+    static List<Method> publicMethods() {
+        return Arrays.stream(Hubcascade.class.getDeclaredMethods()).filter(FaceTests::isVisible)
+            .sorted((one, other) -> one.getName().compareTo(other.getName())).toList();
+    }
+
     private static boolean isVisible(Member member) {
         return !Modifier.isPrivate(member.getModifiers());
     }
