@@ -95,7 +95,8 @@ public final class Hubcascade {
 
     // ---------------------------------------------------------------- devices
 
-    public int make(char speed, int ports, int power, boolean hasOwn, int kind) {
+    public int make(char speed, int ports, int power, boolean hasOwn, int kind)
+            throws IllegalArgumentException, IllegalStateException {
         if (!isSpeed(speed) || !isWithin(ports, 0, 4) || !isWithin(power, 1, 5) || !isWithin(kind, 0, 99)) {
             throw new IllegalArgumentException("no such device can be made");
         }
@@ -117,7 +118,8 @@ public final class Hubcascade {
         return made.number;
     }
 
-    public int endpoint(int device, int number, boolean isIn, int greatest) {
+    public int endpoint(int device, int number, boolean isIn, int greatest)
+            throws IndexOutOfBoundsException, IllegalArgumentException, UnsupportedOperationException {
         Device d = deviceAt(device);
         if (!isWithin(number, 1, ENDPOINTS) || !isWithin(greatest, 1, 8)) {
             throw new IllegalArgumentException("no such endpoint can be made");
@@ -132,7 +134,7 @@ public final class Hubcascade {
         return d.countEndpoints();
     }
 
-    public int plug(int device, int hub, int port) {
+    public int plug(int device, int hub, int port) throws IndexOutOfBoundsException, UnsupportedOperationException {
         Device d = deviceAt(device);
         Device h = deviceAt(hub);
         if (port < 0 || port >= h.ports) {
@@ -153,7 +155,7 @@ public final class Hubcascade {
         return d.depth;
     }
 
-    public int unplug(int device) {
+    public int unplug(int device) throws IndexOutOfBoundsException, UnsupportedOperationException {
         Device d = deviceBelowHost(device);
         if (d.state == UNPLUGGED) {
             throw new UnsupportedOperationException("it is not plugged");
@@ -161,24 +163,24 @@ public final class Hubcascade {
         return detach(d, true);
     }
 
-    public char stateOf(int device) {
+    public char stateOf(int device) throws IndexOutOfBoundsException {
         return deviceAt(device).state;
     }
 
-    public int hubOf(int device) {
+    public int hubOf(int device) throws IndexOutOfBoundsException {
         Device hub = deviceAt(device).hub;
         return hub == null ? -1 : hub.number;
     }
 
-    public int depthOf(int device) {
+    public int depthOf(int device) throws IndexOutOfBoundsException {
         return deviceAt(device).depth;
     }
 
-    public char speedOf(int device) {
+    public char speedOf(int device) throws IndexOutOfBoundsException {
         return deviceAt(device).runs;
     }
 
-    public int translator(int device) {
+    public int translator(int device) throws IndexOutOfBoundsException, UnsupportedOperationException {
         Device d = deviceAt(device);
         if (d.hub == null) {
             throw new UnsupportedOperationException("it is in no hub");
@@ -186,11 +188,11 @@ public final class Hubcascade {
         return d.translatorNumber;
     }
 
-    public int addressOf(int device) {
+    public int addressOf(int device) throws IndexOutOfBoundsException {
         return deviceAt(device).address;
     }
 
-    public int look() {
+    public int look() throws NoSuchElementException {
         Device found = firstNewDevice();
         if (found == null) {
             throw new NoSuchElementException("no new device can be reached");
@@ -209,7 +211,7 @@ public final class Hubcascade {
         return found.number;
     }
 
-    public int driver(int kind, int subkind) {
+    public int driver(int kind, int subkind) throws IllegalArgumentException, IllegalStateException {
         if (!isWithin(kind, 0, 9) || !isWithin(subkind, -1, 9)) {
             throw new IllegalArgumentException("no such class or subclass");
         }
@@ -222,11 +224,11 @@ public final class Hubcascade {
         return driverCount - 1;
     }
 
-    public int driverOf(int device) {
+    public int driverOf(int device) throws IndexOutOfBoundsException {
         return deviceAt(device).driverNumber;
     }
 
-    public int draw(int device, int units) {
+    public int draw(int device, int units) throws IndexOutOfBoundsException, IllegalArgumentException {
         Device d = deviceBelowHost(device);
         if (!isWithin(units, 0, 9)) {
             throw new IllegalArgumentException("no such draw");
@@ -236,7 +238,7 @@ public final class Hubcascade {
         return before;
     }
 
-    public int sleep(int device) {
+    public int sleep(int device) throws IndexOutOfBoundsException, UnsupportedOperationException {
         Device top = deviceBelowHost(device);
         if (top.state != CONFIGURED || hasTransferWithin(top)) {
             throw new UnsupportedOperationException("it can't be put asleep");
@@ -252,7 +254,7 @@ public final class Hubcascade {
         return many;
     }
 
-    public int wake(int device) {
+    public int wake(int device) throws IndexOutOfBoundsException, UnsupportedOperationException {
         Device asked = deviceAt(device);
         if (asked.state != ASLEEP) {
             throw new UnsupportedOperationException("it is not asleep");
@@ -272,7 +274,7 @@ public final class Hubcascade {
 
     // ---------------------------------------------------------------- typed bytes
 
-    public int five(int bits) {
+    public int five(int bits) throws IllegalArgumentException {
         if (!isWithin(bits, 0, 2047)) {
             throw new IllegalArgumentException("not eleven bits");
         }
@@ -283,7 +285,7 @@ public final class Hubcascade {
         return 31 - check;
     }
 
-    public int type(int value) {
+    public int type(int value) throws IllegalArgumentException, IllegalStateException {
         if (!isWithin(value, 0, 255)) {
             throw new IllegalArgumentException("not a byte");
         }
@@ -330,7 +332,9 @@ public final class Hubcascade {
 
     // ---------------------------------------------------------------- pipes
 
-    public int open(int device, int endpoint, char kind, int interval) {
+    public int open(int device, int endpoint, char kind, int interval)
+            throws IndexOutOfBoundsException, IllegalArgumentException, UnsupportedOperationException,
+            IllegalStateException {
         Device d = deviceAt(device);
         Endpoint e = endpointAt(d, endpoint);
         if (kind != BULK && !(isPeriodic(kind) && isInterval(interval))) {
@@ -357,15 +361,15 @@ public final class Hubcascade {
         return pipe.number;
     }
 
-    public int close(int pipe) {
+    public int close(int pipe) throws NoSuchElementException {
         return closeBy(openPipe(pipe), OVER_CANCELLED);
     }
 
-    public int phaseOf(int pipe) {
+    public int phaseOf(int pipe) throws NoSuchElementException {
         return openPipe(pipe).phase;
     }
 
-    public int reserved(int frame, int hub) {
+    public int reserved(int frame, int hub) throws IllegalArgumentException, IndexOutOfBoundsException {
         if (!isWithin(frame, 0, PHASES - 1)) {
             throw new IllegalArgumentException("no such frame");
         }
@@ -375,7 +379,7 @@ public final class Hubcascade {
         return units.hubs[deviceAt(hub).number * PHASES + frame];
     }
 
-    public int send(int pipe) {
+    public int send(int pipe) throws NoSuchElementException, UnsupportedOperationException, IllegalStateException {
         Pipe p = openPipe(pipe);
         Endpoint e = p.endpoint;
         if (e == null || e.isIn || typed.size == 0) {
@@ -392,7 +396,9 @@ public final class Hubcascade {
         return p.count;
     }
 
-    public int ask(int pipe, int bytes) {
+    public int ask(int pipe, int bytes)
+            throws NoSuchElementException, IllegalArgumentException, UnsupportedOperationException,
+            IllegalStateException {
         Pipe p = openPipe(pipe);
         if (!isWithin(bytes, 1, MOST_TYPED)) {
             throw new IllegalArgumentException("not so many can be asked for");
@@ -408,7 +414,7 @@ public final class Hubcascade {
         return p.count;
     }
 
-    public int ring(int pipe) {
+    public int ring(int pipe) throws NoSuchElementException {
         Pipe p = openPipe(pipe);
         int many = 0;
         for (int i = 0; i < p.count; i++) {
@@ -421,17 +427,17 @@ public final class Hubcascade {
         return many;
     }
 
-    public boolean isHalted(int pipe) {
+    public boolean isHalted(int pipe) throws NoSuchElementException {
         return openPipe(pipe).isStopped;
     }
 
-    public int clear(int pipe) {
+    public int clear(int pipe) throws NoSuchElementException {
         Pipe p = openPipe(pipe);
         p.startAnew();
         return p.count;
     }
 
-    public int cancel(int pipe) {
+    public int cancel(int pipe) throws NoSuchElementException, UnsupportedOperationException {
         Pipe p = openPipe(pipe);
         if (p.count == 0) {
             throw new UnsupportedOperationException("there is no transfer");
@@ -441,7 +447,9 @@ public final class Hubcascade {
         return bytes;
     }
 
-    public int load(int device, int endpoint) {
+    public int load(int device, int endpoint)
+            throws IndexOutOfBoundsException, UnsupportedOperationException,
+            IllegalStateException {
         Endpoint e = endpointAt(deviceAt(device), endpoint);
         if (!e.isIn) {
             throw new UnsupportedOperationException("it goes out of the host");
@@ -456,7 +464,8 @@ public final class Hubcascade {
         return e.bytes.size;
     }
 
-    public int fault(int device, int endpoint, char kind, int many) {
+    public int fault(int device, int endpoint, char kind, int many)
+            throws IndexOutOfBoundsException, IllegalArgumentException {
         Device d = deviceBelowHost(device);
         Fault f = endpoint == 0 ? d.control : endpointAt(d, endpoint).fault;
         if (!isFault(kind) || !isWithin(many, 1, 9)) {
@@ -495,7 +504,7 @@ public final class Hubcascade {
         return frames;
     }
 
-    public int left(int hub) {
+    public int left(int hub) throws IndexOutOfBoundsException, NoSuchElementException {
         int number = hub == -1 ? -1 : deviceAt(hub).number;
         if (frames == 0) {
             throw new NoSuchElementException("there was no frame");
@@ -507,21 +516,21 @@ public final class Hubcascade {
         return events.size;
     }
 
-    public char event() {
+    public char event() throws NoSuchElementException {
         if (events.size == 0) {
             throw new NoSuchElementException("there is no event");
         }
         return events.takeFirst();
     }
 
-    public int eventPipe() {
+    public int eventPipe() throws NoSuchElementException {
         if (events.lastPipe < 0) {
             throw new NoSuchElementException("no event was taken");
         }
         return events.lastPipe;
     }
 
-    public int eventBytes() {
+    public int eventBytes() throws NoSuchElementException {
         if (events.lastPipe < 0) {
             throw new NoSuchElementException("no event was taken");
         }
@@ -534,15 +543,16 @@ public final class Hubcascade {
 
     // ---------------------------------------------------------------- bytes and the sniffer
 
-    public int taken(int device, int endpoint) {
+    public int taken(int device, int endpoint) throws IndexOutOfBoundsException, UnsupportedOperationException {
         return endpointOut(device, endpoint).bytes.total;
     }
 
-    public int takenAt(int device, int endpoint, int index) {
+    public int takenAt(int device, int endpoint, int index)
+            throws IndexOutOfBoundsException, UnsupportedOperationException, NoSuchElementException {
         return newest(endpointOut(device, endpoint).bytes, index);
     }
 
-    public int waiting(int device, int endpoint) {
+    public int waiting(int device, int endpoint) throws IndexOutOfBoundsException, UnsupportedOperationException {
         Endpoint e = endpointAt(deviceAt(device), endpoint);
         if (!e.isIn) {
             throw new UnsupportedOperationException("it goes out of the host");
@@ -554,11 +564,11 @@ public final class Hubcascade {
         return received.total;
     }
 
-    public int gotAt(int index) {
+    public int gotAt(int index) throws NoSuchElementException {
         return newest(received, index);
     }
 
-    public int packets(char what) {
+    public int packets(char what) throws IllegalArgumentException {
         if (what == 't') {
             return sniffer.tokens;
         }
@@ -571,11 +581,11 @@ public final class Hubcascade {
         throw new IllegalArgumentException("no such thing is counted");
     }
 
-    public int blame(int device) {
+    public int blame(int device) throws IndexOutOfBoundsException {
         return deviceAt(device).blames;
     }
 
-    public char causeOf(int pipe) {
+    public char causeOf(int pipe) throws NoSuchElementException, UnsupportedOperationException {
         Pipe p = openPipe(pipe);
         if (p.cause == NO_FAULT) {
             throw new UnsupportedOperationException("it was not halted");
@@ -583,14 +593,14 @@ public final class Hubcascade {
         return p.cause;
     }
 
-    public float busyShare() {
+    public float busyShare() throws ArithmeticException {
         if (frames == 0) {
             throw new ArithmeticException("there was no frame");
         }
         return (float) units.hostUsed / (float) (HOST_UNITS * frames);
     }
 
-    public double meanBytes() {
+    public double meanBytes() throws ArithmeticException {
         if (events.overs == 0) {
             throw new ArithmeticException("no transfer is over");
         }
@@ -948,7 +958,6 @@ public final class Hubcascade {
             answer = passOut(pipe, e, t, bytes, fault);
         }
         if (answer == BABBLED) {
-            pipe.failures = 0;
             disable(d, SHUT);
         } else {
             settle(pipe, t, answer, fault);

@@ -312,6 +312,11 @@ final class DeviceTests {
             frame() = 0; wake(1) = 1; stateOf(1) = 'c'; frame() = 0; frame() = 1; event() = 'd'; taken(1, 1) = 1;
             left(-1) = 97; draw(1, 9) = 1; sleep(1) = 1; frame() = 0; wake(1) = 1; frame() = 0; stateOf(1) = 's'.
             """);
+        Script.run("17 wake, plugged anew", """
+            make('h', 0, 1, false, 0) = 1; endpoint(1, 1, false, 8) = 1; plug(1, 0, 0) = 1; look() = 1; sleep(1) = 1;
+            wake(1) = 1; unplug(1) = 1; plug(1, 0, 0) = 1; look() = 1; open(1, 1, 'b', 0) = 0; type(1) = 1;
+            send(0) = 1; ring(0) = 1; frame() = 1.
+            """);
     }
 
     private static void wakeOfMany() {

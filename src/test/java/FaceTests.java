@@ -26,14 +26,15 @@ final class FaceTests {
         int start = document.indexOf("public final class Hubcascade {");
         String block = document.substring(start, document.indexOf("```", start));
         Set<String> due = new TreeSet<>();
-        Matcher matcher = Pattern.compile("public (\\w+) (\\w+)\\(([^)]*)\\)").matcher(block);
+        Matcher matcher = Pattern.compile("public (\\w+) (\\w+)\\(([^)]*)\\)(?: throws ([\\w, ]+))?;").matcher(block);
         while (matcher.find()) {
             List<String> types = new ArrayList<>();
             for (String parameter : matcher.group(3).split(",")) {
                 String word = parameter.strip();
                 types.add(word.isEmpty() ? "" : word.substring(0, word.indexOf(' ')));
             }
-            due.add(matcher.group(1) + " " + matcher.group(2) + "(" + String.join(",", types) + ")");
+            String thrown = matcher.group(4) == null ? "" : matcher.group(4).replace(" ", "");
+            due.add(matcher.group(1) + " " + matcher.group(2) + "(" + String.join(",", types) + ")" + thrown);
         }
         Check.is("the document has 53 methods", due.size(), 53);
         Set<String> found = new TreeSet<>();
@@ -43,7 +44,9 @@ final class FaceTests {
             (isVisible(method) ? publicNames : privateNames).add(method.getName());
             if (isVisible(method)) {
                 List<String> types = Arrays.stream(method.getParameterTypes()).map(Class::getName).toList();
-                found.add(method.getReturnType() + " " + method.getName() + "(" + String.join(",", types) + ")");
+                List<String> thrown = Arrays.stream(method.getExceptionTypes()).map(Class::getSimpleName).toList();
+                found.add(method.getReturnType() + " " + method.getName() + "(" + String.join(",", types) + ")"
+                    + String.join(",", thrown));
             }
         }
         Check.is("the public methods", found.toString(), due.toString());

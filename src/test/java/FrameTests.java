@@ -8,7 +8,9 @@ final class FrameTests {
         left();
         turns();
         turnsGoOnInTheNextFrame();
+        turnsOfTwelve();
         whatFits();
+        whatFitsExactly();
         whatFitsOfTheTranslator();
         paidWhatever();
         phases();
@@ -61,6 +63,44 @@ final class FrameTests {
             open(1, 1, 'b', 0) = 0; open(1, 2, 'b', 0) = 1;
             """ + Setup.ask(1, 1) + "frame() = 1; " + Setup.send(0, 1) + Setup.load(1, 2, 1, 4) + "frame() = 2; "
             + "event() = 'd'; eventPipe() = 0; event() = 'd'; eventPipe() = 1");
+    }
+
+    private static void turnsOfTwelve() {
+        StringBuilder text = new StringBuilder();
+        for (int device = 1; device <= 4; device++) {
+            text.append(Setup.device(device, 'h', device - 1, -1, -1, -1));
+        }
+        for (int pipe = 0; pipe < 12; pipe++) {
+            text.append("open(").append(pipe / 3 + 1).append(", ").append(pipe % 3 + 1).append(", 'b', 0) = ")
+                .append(pipe).append("; ");
+        }
+        for (int pipe : new int[] {11, 6, 5, 1, 0}) {
+            text.append(Setup.send(pipe, 7));
+        }
+        text.append("frame() = 5; ");
+        for (int pipe : new int[] {0, 1, 5, 6, 11}) {
+            text.append(Setup.event('d', pipe, 1));
+        }
+        for (int pipe : new int[] {10, 3, 0}) {
+            text.append(Setup.send(pipe, 7));
+        }
+        text.append("frame() = 3; ").append(Setup.event('d', 0, 1)).append(Setup.event('d', 3, 1))
+            .append(Setup.event('d', 10, 1));
+        Script.run("35 frame, turns of twelve", text.toString());
+    }
+
+    private static void whatFitsExactly() {
+        String sixteen = "type(0) = 1; type(0) = 2; type(0) = 3; type(0) = 4; type(0) = 5; type(0) = 6; type(0) = 7; "
+            + "type(0) = 8; type(0) = 9; type(0) = 10; type(0) = 11; type(0) = 12; type(0) = 13; type(0) = 14; "
+            + "type(0) = 15; type(0) = 16; send(0) = ";
+        Script.run("35 frame, what fits into the host's units exactly", Setup.device(1, 'h', 0, -8, -8) + """
+            open(1, 1, 'b', 0) = 0; open(1, 2, 'b', 0) = 1;
+            """ + sixteen + "1; " + sixteen + "2; " + sixteen + "3; " + sixteen + "4; ring(0) = 4; "
+            + Setup.send(1, 1, 2, 3, 4, 5, 6, 7, 8, 9, 10, 11, 12, 13, 14, 15, 16)
+            + "frame() = 10; left(-1) = 0; taken(1, 1) = 64; taken(1, 2) = 16");
+        Script.run("35 frame, what fits into the translator's units exactly", Setup.device(1, 'f', 0, -8) + """
+            open(1, 1, 'b', 0) = 0;
+            """ + sixteen + "1; " + sixteen + "2; ring(0) = 2; frame() = 3; left(0) = 0; left(-1) = 70; frame() = 1");
     }
 
     private static void whatFits() {

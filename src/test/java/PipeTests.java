@@ -121,8 +121,15 @@ final class PipeTests {
             + Setup.device(3, 'h', 2, 8, 8, 1) + """
             open(1, 1, 'i', 1) = 0; open(1, 2, 'i', 1) = 1; open(1, 3, 'i', 1) = 2; open(2, 1, 'i', 1) = 3;
             open(2, 2, 'i', 1) = 4; open(2, 3, 'i', 1) = 5; open(3, 1, 'i', 1) = 6; open(3, 2, 's', 1) = 7;
-            reserved(0, -1) = 80; open(3, 3, 'i', 8) throws UnsupportedOperationException; close(2) = 0;
-            open(3, 3, 'i', 1) = 2; reserved(7, -1) = 73; open(1, 3, 'b', 0) = 8.
+            reserved(0, -1) = 80; isSound() = true; open(3, 3, 'i', 8) throws UnsupportedOperationException;
+            close(2) = 0; open(3, 3, 'i', 1) = 2; reserved(7, -1) = 73; open(1, 3, 'b', 0) = 8.
+            """);
+        Script.run("25 phaseOf, 81 units", Setup.device(1, 'h', 0, 8, 8, 8) + Setup.device(2, 'h', 1, 8, 8, 8)
+            + Setup.device(3, 'h', 2, 8, 6, 1) + """
+            open(1, 1, 'i', 1) = 0; open(1, 2, 'i', 1) = 1; open(1, 3, 'i', 1) = 2; open(2, 1, 'i', 1) = 3;
+            open(2, 2, 'i', 1) = 4; open(2, 3, 'i', 1) = 5; open(3, 1, 'i', 1) = 6; open(3, 2, 's', 2) = 7;
+            reserved(0, -1) = 78; reserved(1, -1) = 70; open(3, 3, 'i', 1) throws UnsupportedOperationException;
+            open(3, 3, 'i', 2) = 8; phaseOf(8) = 1.
             """);
     }
 
@@ -210,6 +217,18 @@ final class PipeTests {
             frame() = 1; got() = 3; waiting(1, 1) = 3; event() = 'd'; clear(1) = 0; ask(1, 2) = 1; ring(1) = 1;
             frame() = 1; got() = 5; gotAt(0) = 5; waiting(1, 1) = 1; event() = 'd'; eventBytes() = 2.
             """);
+        Script.run("31 clear, toggles", Setup.device(1, 'h', 0, 8, -8) + "open(1, 2, 'b', 0) = 0; "
+            + Setup.send(0, 1) + "frame() = 1; taken(1, 2) = 1; clear(0) = 0; " + Setup.send(0, 2)
+            + "frame() = 1; taken(1, 2) = 2; clear(0) = 0; " + Setup.send(0, 3) + Setup.type(4)
+            + "send(0) = 2; ring(0) = 1; frame() = 2; taken(1, 2) = 4");
+        Script.run("23 open, toggles", Setup.device(1, 'h', 0, 8, -8) + "open(1, 2, 'b', 0) = 0; "
+            + Setup.send(0, 1) + "frame() = 1; taken(1, 2) = 1; close(0) = 0; open(1, 2, 'i', 1) = 0; "
+            + Setup.send(0, 2) + "frame() = 1; taken(1, 2) = 2; close(0) = 0; open(1, 2, 'b', 0) = 0; "
+            + Setup.send(0, 3) + "frame() = 1; taken(1, 2) = 3");
+        Script.run("31 clear, a new row of failures", Setup.device(1, 'h', 0, 8, -8) + "open(1, 2, 'b', 0) = 0; "
+            + "fault(1, 2, 'c', 5) = 0; " + Setup.send(0, 1) + "frame() = 1; frame() = 1; frame() = 1; "
+            + "event() = 'e'; clear(0) = 0; " + Setup.send(0, 1) + "frame() = 1; frame() = 1; events() = 0; "
+            + "isHalted(0) = false; frame() = 1; event() = 'd'");
         Script.run("23 open, a packet that was not acknowledged is forgotten", Setup.device(1, 'h', 0, 8)
             + "open(1, 1, 'b', 0) = 0; " + Setup.load(1, 1, 3, 4, 5, 6) + "fault(1, 1, 'd', 1) = 0; "
             + Setup.ask(0, 3) + "frame() = 1; got() = 0; close(0) = 1; open(1, 1, 'b', 0) = 0; " + Setup.ask(0, 2)

@@ -10,6 +10,7 @@ final class SnifferTests {
         packets();
         blame();
         checksum();
+        soundness();
     }
 
     private static void taken() {
@@ -61,9 +62,9 @@ final class SnifferTests {
             blame(2) throws IndexOutOfBoundsException; blame(-1) throws IndexOutOfBoundsException; blame(0) = 0;
             blame(1) = 0; fault(1, 1, 't', 2) = 0; open(1, 1, 'b', 0) = 0;
             """ + Setup.load(1, 1, 12, 1, 2, 3, 4, 5, 6, 7, 8, 9, 10, 11, 12) + Setup.ask(0, 4) + """
-            frame() = 3; blame(1) = 2; fault(1, 1, 'b', 1) = 0; ask(0, 1) = 1; ring(0) = 1; frame() = 1; blame(1) = 3; stateOf(1) = 's';
-            unplug(1) = 1; plug(1, 0, 0) = 1; fault(1, 0, 'c', 3) = 0; look() = 1; blame(1) = 4; unplug(1) = 1;
-            plug(1, 0, 0) = 1; look() = 1; draw(1, 9) = 1; frame() = 0; blame(1) = 5.
+            frame() = 3; blame(1) = 2; fault(1, 1, 'b', 1) = 0; ask(0, 1) = 1; ring(0) = 1; frame() = 1; blame(1) = 3;
+            stateOf(1) = 's'; unplug(1) = 1; plug(1, 0, 0) = 1; fault(1, 0, 'c', 3) = 0; look() = 1; blame(1) = 4;
+            unplug(1) = 1; plug(1, 0, 0) = 1; look() = 1; draw(1, 9) = 1; frame() = 0; blame(1) = 5.
             """);
     }
 
@@ -93,5 +94,52 @@ final class SnifferTests {
             due = 31 * due + i;
         }
         Check.is("53 checksum, the last 32 bytes", bus.checksum(), due);
+    }
+
+    // No run of calls makes a bus unsound, so each part is broken from behind.
+    private static void soundness() {
+        Check.is("54 isSound", brokenBus("", 0, "").isSound(), true);
+        Check.is("54 isSound, units of the host", brokenBus("units.host", 3, "").isSound(), false);
+        Check.is("54 isSound, units of the host's hub", brokenBus("units.hubs", 0, "").isSound(), false);
+        Check.is("54 isSound, units of another translator", brokenBus("units.hubs", 127, "").isSound(), false);
+        Check.is("54 isSound, addresses", brokenBus("devices", 1, "address").isSound(), false);
+        Check.is("54 isSound, hubs", brokenBus("devices", 1, "hub").isSound(), false);
+        Check.is("54 isSound, a hub that is unplugged", brokenBus("devices", 3, "state").isSound(), false);
+        Check.is("54 isSound, bytes", brokenBus("devices", 1, "endpoints").isSound(), false);
+        Hubcascade bus = brokenBus("", 0, "");
+        for (int pipe = 0; pipe < 8; pipe++) {
+            Check.is("54 isSound, at the bound", bus.isSound(), true);
+            bus.open(1 + pipe / 3, 1 + pipe % 3, 'i', 1);
+        }
+        Check.is("54 isSound, 80 units of the host", bus.isSound() && bus.reserved(0, -1) == 80, true);
+        Inside.set(bus, "devices.1.endpoints.1.greatest", 9);
+        Inside.add(bus, "units.host", 0, 1);
+        Check.is("54 isSound, out of bounds", bus.isSound(), false);
+    }
+
+    private static Hubcascade brokenBus(String row, int index, String field) {
+        Hubcascade bus = new Hubcascade();
+        for (int device = 1; device <= 3; device++) {
+            bus.make('h', 1, 1, false, 0);
+            bus.endpoint(device, 1, false, 8);
+            bus.endpoint(device, 2, true, 8);
+            bus.endpoint(device, 3, true, 8);
+            bus.plug(device, 0, device);
+            bus.look();
+        }
+        bus.make('h', 1, 1, false, 0);
+        bus.plug(4, 3, 0);
+        if (row.startsWith("units")) {
+            Inside.add(bus, row, index, 1);
+        } else if (field.equals("address")) {
+            Inside.set(bus, "devices.1.address", 3);
+        } else if (field.equals("hub")) {
+            Inside.set(bus, "devices.1.hub", null);
+        } else if (field.equals("state")) {
+            Inside.set(bus, "devices.3.state", 'u');
+        } else if (field.equals("endpoints")) {
+            Inside.set(bus, "devices.1.endpoints.0.bytes.total", 1);
+        }
+        return bus;
     }
 }

@@ -18,6 +18,7 @@ final class TransferTests {
         spoiledIn();
         handshakeSpoiledIn();
         sentAgainJustAsItWas();
+        oneAfterAnother();
         rowsOfFailures();
         rowsOverTransfers();
         stalls();
@@ -126,6 +127,24 @@ final class TransferTests {
             + Setup.load(1, 1, 2, 1, 2) + Setup.ask(0, 3) + "frame() = 1; " + Setup.load(1, 1, 3, 3)
             + "fault(1, 1, 'n', 1) = 0; frame() = 1; fault(1, 1, 'c', 1) = 0; frame() = 1; frame() = 1; got() = 2; "
             + Setup.event('h', 0, 2) + "waiting(1, 1) = 1");
+    }
+
+    private static void oneAfterAnother() {
+        String four = "type(1) = 1; send(1) = 1; type(1) = 1; send(1) = 2; type(1) = 1; send(1) = 3; type(1) = 1; "
+            + "send(1) = 4; ring(1) = 4; frame() = 4; event() = 'd'; event() = 'd'; event() = 'd'; event() = 'd'; ";
+        Script.run("29 ring, five transfers one after another", PAIR + four + "type(1) = 1; send(1) = 1; frame() = 0; "
+            + "ring(1) = 1; frame() = 1; taken(1, 2) = 5");
+        StringBuilder sound = new StringBuilder("fault(1, 2, 'd', 1) = 0; " + Setup.send(1, 1) + "frame() = 1; "
+            + Setup.event('l', 1, 1));
+        StringBuilder asked = new StringBuilder(Setup.load(1, 1, 1, 1) + Setup.ask(0, 2) + "frame() = 1; "
+            + Setup.event('h', 0, 1));
+        for (int i = 0; i < 4; i++) {
+            sound.append(Setup.send(1, 1)).append("frame() = 1; ").append(Setup.event('d', 1, 1));
+            asked.append(Setup.load(1, 1, 4, 1, 2, 3, 4)).append(Setup.ask(0, 8)).append("frame() = 2; events() = 0; ")
+                .append(Setup.load(1, 1, 4, 1, 2, 3, 4)).append("frame() = 1; ").append(Setup.event('d', 0, 8));
+        }
+        Script.run("39 event, sound, five transfers one after another", SOUND + sound);
+        Script.run("39 event, short, five transfers one after another", PAIR + asked);
     }
 
     private static void rowsOfFailures() {
