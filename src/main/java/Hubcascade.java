@@ -491,10 +491,10 @@ public final class Hubcascade {
                 takeTurn(p);
             }
         }
-        int next = nextBulkPipe();
-        for (int turn = 0; turn < TURNS_BOUND && next >= 0; turn++) {
-            lastTurn = next;
-            takeTurn(pipes[next]);
+        Pipe next = nextBulkPipe();
+        for (int turn = 0; turn < TURNS_BOUND && next != null; turn++) {
+            lastTurn = next.number;
+            takeTurn(next);
             next = nextBulkPipe();
         }
         return sniffer.tokens - before;
@@ -900,15 +900,14 @@ public final class Hubcascade {
 
     // ---------------------------------------------------------------- transactions
 
-    private int nextBulkPipe() {
+    private Pipe nextBulkPipe() {
         for (int i = 1; i <= PIPES; i++) {
-            int number = (lastTurn + i) % PIPES;
-            Pipe p = pipes[number];
+            Pipe p = pipes[(lastTurn + i) % PIPES];
             if (p.kind == BULK && !p.hasPaused && canGo(p)) {
-                return number;
+                return p;
             }
         }
-        return -1;
+        return null;
     }
 
     private boolean canGo(Pipe pipe) {

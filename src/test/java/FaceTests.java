@@ -84,8 +84,11 @@ final class FaceTests {
         Check.is("the imports", Pattern.compile("(?m)^import .*$").matcher(source).results()
             .map(result -> result.group()).toList().toString(), "[import java.util.NoSuchElementException;]");
         int lines = 0;
+        String made = ".*(throw new \\w+\\(\"|private final .* = new "
+            + "|(devices|pipes|endpoints|transfers)\\[i\\] = new ).*";
         for (String line : source.split("\n")) {
             Check.is("at most 120 signs in: " + line, line.length() <= 120, true);
+            Check.is("objects are made ahead: " + line, !line.contains("new ") || line.matches(made), true);
             lines = line.matches(" {4,8}[a-zA-Z].*\\) \\{") ? 0 : lines + 1;
             Check.is("a method of at most 60 lines before: " + line, lines <= 60 || !line.matches(" {4,8}}"), true);
         }

@@ -1,3 +1,5 @@
+import java.util.ArrayList;
+import java.util.List;
 import java.util.Random;
 
 /**
@@ -7,10 +9,10 @@ import java.util.Random;
 final class RandomTests {
     private static final int RUNS = 300;
     private static final int CALLS = 512;
-    private static final String[] WORK = {"type", "type", "type", "send", "send", "ask", "ask", "ring", "ring", "ring",
-        "load", "load", "frame", "frame", "frame", "frame", "event", "event", "fault", "fault", "clear"};
-    private static final String[] CHANGE = {"plug", "plug", "look", "look", "open", "open", "open", "close", "unplug",
-        "sleep", "wake", "draw", "cancel", "cancel", "wipe", "driver", "clear"};
+    private static final String[] WORK = {"transfer", "transfer", "transfer", "load", "load", "ring", "frame", "frame",
+        "frame", "frame", "frame", "frame", "frame", "frame", "event", "event", "event", "fault", "fault", "clear"};
+    private static final String[] CHANGE = {"plug", "plug", "plug", "look", "look", "look", "open", "open", "open",
+        "open", "close", "unplug", "sleep", "sleep", "wake", "draw", "cancel", "cancel", "wipe", "driver", "type"};
     private static final int[] ODD = {-1, 0, 1, 2, 3, 4, 5, 7, 8, 11, 12, 15, 16, 17, 32, 99, 255, 256, 2047, 2048,
         Integer.MIN_VALUE, Integer.MAX_VALUE};
 
@@ -18,8 +20,11 @@ final class RandomTests {
     private final Hubcascade bus = new Hubcascade();
     private final Model model = new Model();
     private final StringBuilder said = new StringBuilder();
+    private final List<int[]> points = new ArrayList<>();
+    private final List<int[]> pipes = new ArrayList<>();
     private boolean isSame = true;
     private int made;
+    private int calls;
 
     private RandomTests(long seed) {
         random = new Random(seed);
@@ -33,18 +38,15 @@ final class RandomTests {
     }
 
     private void runOne(int seed) {
-        int calls = 0;
-        for (int i = 1 + random.nextInt(15); i > 0 && isSame; i--) {
-            calls += makeDevice();
+        for (int i = 1 + random.nextInt(random.nextBoolean() ? 15 : 4); i > 0 && isSame; i--) {
+            makeDevice();
         }
         for (int i = 0; i < 60 && isSame; i++) {
-            calls++;
             setUp();
         }
-        while (calls < CALLS && isSame) {
-            calls++;
+        for (int i = 0; calls < CALLS && isSame; i++) {
             step();
-            if (calls % 64 == 0) {
+            if (i % 32 == 0) {
                 compare("picture after " + calls, Calls.picture(bus), Calls.picture(model));
             }
         }
@@ -52,16 +54,17 @@ final class RandomTests {
         Check.is("run " + seed, isSame, true);
     }
 
-    private int makeDevice() {
+    private void makeDevice() {
         char speed = "lffhhhh".charAt(random.nextInt(7));
         int ports = speed == 'l' || random.nextInt(3) == 0 ? 0 : 1 + random.nextInt(4);
         call("make", speed, ports, 1 + random.nextInt(3), random.nextBoolean(), random.nextInt(100));
         made++;
         int endpoints = 1 + random.nextInt(3);
         for (int number = 1; number <= endpoints; number++) {
-            call("endpoint", made, number, random.nextBoolean(), 1 + random.nextInt(8));
+            boolean isIn = random.nextBoolean();
+            call("endpoint", made, number, isIn, 1 + random.nextInt(8));
+            points.add(new int[] {made, number, isIn ? 1 : 0});
         }
-        return 1 + endpoints;
     }
 
     private void setUp() {
@@ -77,7 +80,7 @@ final class RandomTests {
 
     private void step() {
         int dice = random.nextInt(100);
-        if (dice < 80) {
+        if (dice < 85) {
             callByName(WORK[random.nextInt(WORK.length)]);
         } else if (dice < 97) {
             callByName(CHANGE[random.nextInt(CHANGE.length)]);
@@ -87,22 +90,59 @@ final class RandomTests {
     }
 
     private void open() {
-        call("open", device(), 1 + random.nextInt(3), "bbbis".charAt(random.nextInt(5)), 1 << random.nextInt(4));
+        int[] point = point();
+        call("open", point[0], point[1], "bbbis".charAt(random.nextInt(5)), 1 << random.nextInt(4));
+    }
+
+    // A transfer is asked for or sent by what the pipe is for, mostly, and its bytes are typed ahead of it.
+    private void transfer() {
+        int[] pipe = pipe();
+        boolean isIn = pipe[3] == 1 != (random.nextInt(20) == 0);
+        if (isIn) {
+            call("ask", pipe[0], 1 + random.nextInt(16));
+        } else {
+            typeSome();
+            call("send", pipe[0]);
+        }
+        if (random.nextInt(4) > 0) {
+            call("ring", pipe[0]);
+        }
+    }
+
+    private void load() {
+        int[] pipe = pipe();
+        int[] point = random.nextInt(5) == 0 ? point() : new int[] {pipe[1], pipe[2]};
+        typeSome();
+        call("load", point[0], point[1]);
+    }
+
+    private void typeSome() {
+        for (int i = random.nextInt(10); i > 0; i--) {
+            call("type", random.nextInt(256));
+        }
+    }
+
+    private void fault() {
+        int[] pipe = pipe();
+        int[] point = random.nextInt(3) == 0 ? point() : new int[] {pipe[1], pipe[2]};
+        int number = random.nextInt(12) == 0 ? 0 : point[1];
+        call("fault", point[0], number, "cdansbtcdatcdat".charAt(random.nextInt(15)), 1 + random.nextInt(4));
     }
 
     private void callByName(String name) {
         switch (name) {
-            case "type" -> call(name, random.nextInt(256));
-            case "send", "ring", "close", "clear", "cancel" -> call(name, pipe());
-            case "ask" -> call(name, pipe(), 1 + random.nextInt(16));
-            case "load" -> call(name, device(), 1 + random.nextInt(3));
-            case "plug" -> call(name, device(), random.nextInt(3) == 0 ? 0 : device(), random.nextInt(4));
+            case "transfer" -> transfer();
+            case "load" -> load();
+            case "fault" -> fault();
             case "open" -> open();
-            case "unplug", "sleep", "wake" -> call(name, device());
-            case "draw" -> call(name, device(), random.nextInt(7));
+            case "type" -> call(name, random.nextInt(256));
+            case "ring", "close", "clear", "cancel" -> call(name, pipe()[0]);
+            case "plug" -> call(name, device(), random.nextInt(3) == 0 ? 0 : device(), random.nextInt(4));
+            case "unplug" -> call(name, device());
+            case "sleep" -> call(name, deviceIn('c'));
+            case "wake" -> call(name, deviceIn('z'));
+            case "draw" -> call(name, device(), random.nextInt(4) == 0 ? 6 : random.nextInt(6));
             case "driver" -> call(name, random.nextInt(10), random.nextInt(11) - 1);
-            case "fault" -> call(name, device(), random.nextInt(8) == 0 ? 0 : 1 + random.nextInt(3),
-                "cdansbtcdatcda".charAt(random.nextInt(14)), 1 + random.nextInt(4));
             default -> call(name);
         }
     }
@@ -129,8 +169,37 @@ final class RandomTests {
         return random.nextInt(made + 1 + random.nextInt(2));
     }
 
-    private int pipe() {
-        return random.nextInt(4) == 0 ? random.nextInt(12) : random.nextInt(4);
+    private int deviceIn(char state) {
+        int device = device();
+        for (int i = 0; i <= made && random.nextInt(20) > 0; i++) {
+            int other = (device + i) % (made + 1);
+            if (model.stateOf(other) == state && other > 0) {
+                return other;
+            }
+        }
+        return device;
+    }
+
+    private int[] point() {
+        return points.get(random.nextInt(points.size()));
+    }
+
+    /** One that is open, mostly: its number, device and endpoint, and whether it goes into the host. */
+    private int[] pipe() {
+        pipes.removeIf(pipe -> Calls.answer(model, "phaseOf", pipe[0]).startsWith("throws"));
+        if (pipes.isEmpty() || random.nextInt(20) == 0) {
+            return new int[] {random.nextInt(13) - 1, device(), random.nextInt(5), random.nextInt(2)};
+        }
+        return pipes.get(random.nextInt(pipes.size()));
+    }
+
+    private void remember(int number, Object device, Object endpoint) {
+        pipes.removeIf(pipe -> pipe[0] == number);
+        for (int[] point : points) {
+            if (device.equals(point[0]) && endpoint.equals(point[1])) {
+                pipes.add(new int[] {number, point[0], point[1], point[2]});
+            }
+        }
     }
 
     private int odd() {
@@ -145,11 +214,15 @@ final class RandomTests {
         if (!isSame) {
             return;
         }
+        calls++;
         said.append(name).append(java.util.Arrays.toString(arguments));
         String before = random.nextInt(20) == 0 ? Calls.picture(bus) : "";
         String got = Calls.answer(bus, name, arguments);
         said.append(" = ").append(got).append("\n");
         compare(name, got, Calls.answer(model, name, arguments));
+        if (name.equals("open") && !got.startsWith("throws")) {
+            remember(Integer.parseInt(got), arguments[0], arguments[1]);
+        }
         if (!before.isEmpty() && got.startsWith("throws")) {
             compare(name + " changes nothing", Calls.picture(bus), before);
         }
