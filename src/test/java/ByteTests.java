@@ -48,7 +48,8 @@ final class ByteTests {
 
     private static void stuffed() {
         Script.run("22 stuffed", """
-            stuffed() = 0; type(0) = 1; stuffed() = 8; type(255) = 2; stuffed() = 17; type(255) = 3; stuffed() = 26;
+            stuffed() = 0; type(31) = 1; stuffed() = 8; wipe() = 1; type(63) = 1; stuffed() = 9; wipe() = 1;
+            type(0) = 1; stuffed() = 8; type(255) = 2; stuffed() = 17; type(255) = 3; stuffed() = 26;
             wipe() = 3; type(252) = 1; stuffed() = 9; type(1) = 2; stuffed() = 17; wipe() = 2; type(224) = 1;
             stuffed() = 8; type(7) = 2; stuffed() = 17; wipe() = 2; type(248) = 1; type(1) = 2; stuffed() = 17;
             wipe() = 2; type(240) = 1; type(1) = 2; stuffed() = 16; type(126) = 3; stuffed() = 25; type(191) = 4;
