@@ -141,7 +141,8 @@ final class TransferTests {
         for (int i = 0; i < 4; i++) {
             sound.append(Setup.send(1, 1)).append("frame() = 1; ").append(Setup.event('d', 1, 1));
             asked.append(Setup.load(1, 1, 4, 1, 2, 3, 4)).append(Setup.ask(0, 8))
-                .append("fault(1, 1, 'c', 1) = 0; frame() = 1; events() = 0; frame() = 2; events() = 0; ").append(Setup.load(1, 1, 4, 1, 2, 3, 4)).append("frame() = 1; ").append(Setup.event('d', 0, 8));
+                .append("fault(1, 1, 'c', 1) = 0; frame() = 1; events() = 0; frame() = 2; events() = 0; ")
+                .append(Setup.load(1, 1, 4, 1, 2, 3, 4)).append("frame() = 1; ").append(Setup.event('d', 0, 8));
         }
         Script.run("39 event, sound, five transfers one after another", SOUND + sound);
         Script.run("39 event, short, five transfers one after another", PAIR + asked);
