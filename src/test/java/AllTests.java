@@ -12,6 +12,7 @@ public final class AllTests {
         TransferTests.run();
         FrameTests.run();
         SnifferTests.run();
+        EdgeDeviceTests.run();
         RandomTests.run();
         System.out.println(Check.sum());
         if (!Check.isAllWell()) {

@@ -31,11 +31,15 @@ final class Script {
         String name = line.substring(0, open);
         Object[] arguments = arguments(line.substring(open + 1, close));
         String due = due(line.substring(close + 1).strip());
-        String before = due.startsWith("throws ") ? Calls.picture(bus) : "";
+        String before = due.startsWith("throws ") ? picture(bus) : "";
         Check.is(title, Calls.answer(bus, name, arguments), due);
         if (!before.isEmpty()) {
-            Check.is(title + " changes nothing", Calls.picture(bus), before);
+            Check.isSame(title + " changes nothing", picture(bus), before);
         }
+    }
+
+    private static String picture(Object bus) {
+        return Calls.picture(bus) + "\n" + Inside.picture(bus);
     }
 
     private static String due(String rest) {
