@@ -13,6 +13,8 @@ public final class AllTests {
         FrameTests.run();
         SnifferTests.run();
         EdgeDeviceTests.run();
+        EdgeByteTests.run();
+        EdgePipeTests.run();
         RandomTests.run();
         System.out.println(Check.sum());
         if (!Check.isAllWell()) {
