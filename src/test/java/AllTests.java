@@ -15,6 +15,7 @@ public final class AllTests {
         EdgeDeviceTests.run();
         EdgeByteTests.run();
         EdgePipeTests.run();
+        EdgeTransferTests.run();
         RandomTests.run();
         System.out.println(Check.sum());
         if (!Check.isAllWell()) {
