@@ -16,6 +16,8 @@ public final class AllTests {
         EdgeByteTests.run();
         EdgePipeTests.run();
         EdgeTransferTests.run();
+        EdgeFrameTests.run();
+        EdgeSnifferTests.run();
         RandomTests.run();
         System.out.println(Check.sum());
         if (!Check.isAllWell()) {
