@@ -18,6 +18,7 @@ final class EdgeDeviceTests {
         translators();
         unplug();
         unplugWithFullRow();
+        whatStaysBelow();
         readers();
         look();
         tries();
@@ -186,7 +187,8 @@ final class EdgeDeviceTests {
     }
 
     private static void unplug() {
-        Script.run("5 unplug: in each state", Setup.zoo() + Edge.index("unplug(%s)", 1, 7) + Edge.unsupported("unplug(7)")
+        Script.run("5 unplug: in each state", Setup.zoo() + Edge.index("unplug(%s)", 1, 7)
+            + Edge.unsupported("unplug(7)")
             + "unplug(3) = 1; unplug(2) = 1; unplug(1) = 1; unplug(4) = 1; unplug(5) = 1; unplug(6) = 1; "
             + Edge.forNumbers(1, 7, "unplug(%s) throws UnsupportedOperationException; ")
             + Edge.forNumbers(1, 7, "stateOf(%s) = 'u'; addressOf(%s) = 0; hubOf(%s) = -1; "));
@@ -207,6 +209,35 @@ final class EdgeDeviceTests {
             """ + Edge.forNumbers(1, 4, Setup.event('g', 0, 0)) + Edge.forNumbers(1, 2, Setup.event('g', 1, 0)) + """
             events() = 0; meanBytes() = 0.0; phaseOf(0) throws NoSuchElementException;
             phaseOf(1) throws NoSuchElementException.
+            """);
+    }
+
+    private static void whatStaysBelow() {
+        Script.run("5 unplug: what stays at those below, and what does not", """
+            make('h', 2, 1, true, 0) = 1; make('h', 0, 1, false, 10) = 2; endpoint(2, 1, true, 8) = 1;
+            endpoint(2, 2, false, 8) = 2; driver(1, 0) = 0; plug(1, 0, 0) = 1; plug(2, 1, 0) = 2; look() = 1;
+            look() = 2; open(2, 1, 'i', 1) = 0; open(2, 2, 'b', 0) = 1; type(7) = 1; load(2, 1) = 1;
+            """ + Setup.send(1, 8, 9) + """
+            frame() = 1; event() = 'd'; draw(2, 4) = 1; fault(2, 0, 'n', 2) = 0; fault(2, 1, 'd', 3) = 0;
+            fault(2, 2, 's', 4) = 0; driverOf(2) = 0; addressOf(2) = 2; unplug(1) = 2; stateOf(2) = 'u';
+            driverOf(2) = -1; addressOf(2) = 0; hubOf(2) = -1; depthOf(2) = -1; reserved(0, -1) = 0;
+            waiting(2, 1) = 1; taken(2, 2) = 2; takenAt(2, 2, 0) = 9; draw(2, 4) = 4; fault(2, 0, 'n', 1) = 2;
+            fault(2, 1, 'd', 1) = 3; fault(2, 2, 's', 1) = 4; frame() = 0; plug(2, 0, 0) = 1; look() = 2;
+            packets('t') = 17; stateOf(2) = 'c'; frame() = 0; stateOf(2) = 'c'; open(2, 1, 'b', 0) = 0; ask(0, 1) = 1;
+            ring(0) = 1; frame() = 1; got() = 0; frame() = 1; got() = 1; gotAt(0) = 7.
+            """);
+        Script.run("a hub that is shut or dead has no devices, and their pipes are closed", """
+            make('h', 2, 1, false, 0) = 1; make('h', 1, 1, true, 0) = 2; make('h', 0, 1, false, 0) = 3;
+            endpoint(2, 1, true, 8) = 1; endpoint(3, 1, true, 8) = 1; endpoint(1, 1, true, 8) = 1; plug(1, 0, 0) = 1;
+            plug(2, 1, 0) = 2; plug(3, 2, 0) = 3; look() = 1; look() = 2; look() = 3; open(3, 1, 'i', 1) = 0;
+            open(1, 1, 'i', 1) = 1; open(2, 1, 'i', 1) = 2; ask(0, 1) = 1; ask(1, 2) = 1; ask(2, 3) = 1; ask(2, 4) = 2;
+            draw(1, 6) = 1; frame() = 0; stateOf(1) = 's'; stateOf(2) = 'u'; stateOf(3) = 'u'; hubOf(2) = -1;
+            addressOf(3) = 0; reserved(0, -1) = 10; events() = 3;
+            """ + Setup.event('g', 0, 0) + Setup.event('g', 2, 0) + Setup.event('g', 2, 0) + """
+            phaseOf(0) throws NoSuchElementException; phaseOf(1) = 0; phaseOf(2) throws NoSuchElementException;
+            unplug(2) throws UnsupportedOperationException; plug(2, 0, 1) = 1; plug(3, 2, 0) = 2;
+            fault(2, 0, 'c', 3) = 0; look() = 2; stateOf(2) = 'x'; stateOf(3) = 'u'; depthOf(3) = -1;
+            plug(3, 0, 2) = 1; look() = 3; addressOf(3) = 2.
             """);
     }
 
@@ -262,7 +293,8 @@ final class EdgeDeviceTests {
                 .append(i <= 4 ? 1 : 2).append("; ");
         }
         Script.run("12 look: the lowest address that is free, from 1 to 15", text
-            + Edge.forNumbers(1, 15, "addressOf(%s) = 0; ") + Edge.forNumbers(1, 15, "look() = %s; addressOf(%s) = %s; ")
+            + Edge.forNumbers(1, 15, "addressOf(%s) = 0; ") + Edge.forNumbers(1, 15, "look() = %s; "
+            + "addressOf(%s) = %s; ")
             + Edge.noElement("look()") + """
             unplug(7) = 1; plug(7, 1, 2) = 2; look() = 7; addressOf(7) = 7; unplug(1) = 5; addressOf(1) = 0;
             addressOf(8) = 0; plug(8, 0, 0) = 1; look() = 8; addressOf(8) = 1; plug(1, 4, 0) = 2; look() = 1;

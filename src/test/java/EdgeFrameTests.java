@@ -25,7 +25,7 @@ final class EdgeFrameTests {
         shutAtTheNextFrame();
     }
 
-    /** Three high devices with three endpoints each, out of the host, into it at the last one; pipes 0 to 8 are bulk. */
+    /** Three high devices with bulk pipes 0 to 8, all out of the host but the last one. */
     private static String nine() {
         StringBuilder text = new StringBuilder();
         for (int device = 1; device <= 3; device++) {
@@ -58,7 +58,8 @@ final class EdgeFrameTests {
     private static void hundredUnits() {
         for (int bytes = 1; bytes <= 8; bytes++) {
             Script.run("100 units of the host, 90 and " + (2 + bytes), ninety() + sent(9, bytes)
-                + "frame() = 10; left(-1) = " + (8 - bytes) + "; taken(4, 1) = " + bytes + "; frame() = 0; left(-1) = 100");
+                + "frame() = 10; left(-1) = " + (8 - bytes) + "; taken(4, 1) = " + bytes + "; frame() = 0; "
+                + "left(-1) = 100");
         }
         for (int bytes = 1; bytes <= 7; bytes++) {
             Script.run("100 units of the host, " + (92 + bytes) + " and 10", ninety() + sent(9, bytes) + sent(10, 8)
@@ -78,7 +79,8 @@ final class EdgeFrameTests {
         Script.run("as many bytes as wait: 5 units are left for 3", ninety() + sent(9, 3) + asked
             + Setup.load(4, 3, 3, 7, 8, 9) + "frame() = 11; left(-1) = 0; got() = 3");
         Script.run("as many bytes as wait: 4 units are left for 3", ninety() + sent(9, 4) + asked
-            + Setup.load(4, 3, 3, 7, 8, 9) + "frame() = 10; left(-1) = 4; got() = 0; frame() = 1; got() = 3; left(-1) = 95");
+            + Setup.load(4, 3, 3, 7, 8, 9) + "frame() = 10; left(-1) = 4; got() = 0; frame() = 1; got() = 3; "
+            + "left(-1) = 95");
         Script.run("what a fault spoils pays as if all went well", ninety() + sent(9, 4) + asked
             + Setup.load(4, 3, 3, 7, 8, 9) + "fault(4, 3, 'n', 1) = 0; frame() = 10; left(-1) = 4; frame() = 1; "
             + "left(-1) = 95; got() = 0; fault(4, 3, 's', 1) = 0; frame() = 1; left(-1) = 95; isHalted(11) = true");
@@ -170,7 +172,8 @@ final class EdgeFrameTests {
             + Setup.event('d', 6, 1) + Setup.event('d', 4, 1));
         Script.run("the last turn of all: by a failure, and by a stall", twelve() + "fault(2, 3, 'c', 1) = 0; "
             + sent(5, 1) + "frame() = 1; " + sent(2, 1) + "frame() = 2; " + Setup.event('d', 2, 1)
-            + Setup.event('d', 5, 1) + "fault(3, 3, 's', 1) = 0; " + sent(8, 1) + "frame() = 1; " + Setup.event('s', 8, 0)
+            + Setup.event('d', 5, 1) + "fault(3, 3, 's', 1) = 0; " + sent(8, 1) + "frame() = 1; "
+            + Setup.event('s', 8, 0)
             + sent(0, 1) + sent(9, 1) + "frame() = 2; " + Setup.event('d', 9, 1) + Setup.event('d', 0, 1));
     }
 
@@ -183,7 +186,8 @@ final class EdgeFrameTests {
             + "taken(1, 2) = 0; taken(1, 3) = 3; frame() = 6; taken(1, 1) = 3; taken(1, 2) = 3; left(-1) = 82");
         Script.run("one that fits goes on behind one that does not", nine() + sent(0, 16) + sent(1, 16) + sent(2, 16)
             + sent(3, 16) + sent(4, 9) + sent(5, 8) + sent(6, 2) + "frame() = 11; left(-1) = 3; taken(3, 1) = 2; "
-            + "taken(2, 3) = 8; taken(1, 1) = 16; taken(1, 2) = 16; taken(1, 3) = 16; taken(2, 1) = 8; taken(2, 2) = 9; "
+            + "taken(2, 3) = 8; taken(1, 1) = 16; taken(1, 2) = 16; taken(1, 3) = 16; taken(2, 1) = 8; "
+            + "taken(2, 2) = 9; "
             + "frame() = 1; taken(2, 1) = 16");
     }
 
@@ -191,7 +195,8 @@ final class EdgeFrameTests {
         for (int interval = 1; interval <= 8; interval *= 2) {
             for (char kind : new char[] {'i', 's'}) {
                 StringBuilder text = new StringBuilder(Setup.device(1, 'h', 0, -1, -1) + "open(1, 1, '" + kind + "', "
-                    + interval + ") = 0; open(1, 2, '" + kind + "', " + interval + ") = 1; phaseOf(0) = 0; phaseOf(1) = "
+                    + interval + ") = 0; open(1, 2, '" + kind + "', " + interval + ") = 1; phaseOf(0) = 0; "
+                    + "phaseOf(1) = "
                     + (interval == 1 ? 0 : 1) + "; " + sent(0, 16) + sent(1, 16));
                 for (int frame = 1; frame <= 17; frame++) {
                     int first = frame % interval == 0 ? 1 : 0;
@@ -218,14 +223,16 @@ final class EdgeFrameTests {
         Script.run("36 frames: a frame in which nothing is done", "frames() = 0; " + Edge.forNumbers(1, 20,
             "frame() = 0; frames() = %s; left(-1) = 100; left(0) = 60; ") + "packets('t') = 0; events() = 0");
         Script.run("a pipe of a device that is not configured waits", Setup.device(1, 'h', 0, -8)
-            + "open(1, 1, 'b', 0) = 0; type(1) = 1; send(0) = 1; frame() = 0; ring(0) = 1; draw(1, 6) = 1; frame() = 0; "
+            + "open(1, 1, 'b', 0) = 0; type(1) = 1; send(0) = 1; frame() = 0; ring(0) = 1; draw(1, 6) = 1; "
+            + "frame() = 0; "
             + "stateOf(1) = 's'; frame() = 0; clear(0) = 1; frame() = 0; taken(1, 1) = 0");
     }
 
     private static void leftBounds() {
         String two = Setup.device(1, 'h', 0) + Setup.device(2, 'f', 1);
         Script.run("37 left: two exceptions at once", two + Edge.index("left(%s)", -1, 2)
-            + Edge.noElement("left(-1)", "left(0)", "left(1)", "left(2)") + "frame() = 0; " + Edge.index("left(%s)", -1, 2)
+            + Edge.noElement("left(-1)", "left(0)", "left(1)", "left(2)") + "frame() = 0; "
+            + Edge.index("left(%s)", -1, 2)
             + "left(-1) = 100; left(0) = 60; left(1) = 60; left(2) = 60; make('h', 0, 1, false, 0) = 3; left(3) = 60; "
             + Edge.index("left(%s)", -1, 3));
     }
@@ -251,13 +258,16 @@ final class EdgeFrameTests {
     }
 
     private static void missedOfEachKind() {
-        String full = Setup.device(1, 'h', 0, 8, -8) + "open(1, 1, 'b', 0) = 0; open(1, 2, 'b', 0) = 1; " + cancelled(6);
-        String none = "events() = 6; missed() = 1; " + Edge.forNumbers(1, 6, "event() = 'x'; ") + Edge.noElement("event()");
+        String full = Setup.device(1, 'h', 0, 8, -8) + "open(1, 1, 'b', 0) = 0; open(1, 2, 'b', 0) = 1; "
+            + cancelled(6);
+        String none = "events() = 6; missed() = 1; " + Edge.forNumbers(1, 6, "event() = 'x'; ")
+            + Edge.noElement("event()");
         Script.run("missed, d", full + Setup.send(1, 1, 2) + "frame() = 1; meanBytes() = 0.2857142857142857; " + none);
         Script.run("missed, h", full + Setup.load(1, 1, 1, 9) + Setup.ask(0, 2) + "frame() = 1; got() = 1; " + none);
         Script.run("missed, e", full + "fault(1, 2, 'c', 3) = 0; " + Setup.send(1, 1)
             + "frame() = 1; frame() = 1; missed() = 0; frame() = 1; isHalted(1) = true; " + none);
-        Script.run("missed, s", full + "fault(1, 2, 's', 1) = 0; " + Setup.send(1, 1) + "frame() = 1; causeOf(1) = 's'; "
+        Script.run("missed, s", full + "fault(1, 2, 's', 1) = 0; " + Setup.send(1, 1) + "frame() = 1; "
+            + "causeOf(1) = 's'; "
             + none);
         Script.run("missed, x by close", full + "ask(0, 1) = 1; close(0) = 1; " + none);
         Script.run("missed, g", full + "ask(0, 1) = 1; unplug(1) = 1; " + none);
@@ -267,10 +277,12 @@ final class EdgeFrameTests {
 
     private static void lastEvent() {
         Script.run("40 eventPipe and 41 eventBytes: of the event that was taken last", Setup.device(1, 'h', 0, 8, -8)
-            + "open(1, 1, 'b', 0) = 0; open(1, 2, 'b', 0) = 1; " + Setup.send(1, 1, 2, 3) + "frame() = 1; ask(0, 1) = 1; "
+            + "open(1, 1, 'b', 0) = 0; open(1, 2, 'b', 0) = 1; " + Setup.send(1, 1, 2, 3) + "frame() = 1; "
+            + "ask(0, 1) = 1; "
             + "cancel(0) = 0; " + Edge.noElement("eventPipe()", "eventBytes()") + "event() = 'd'; eventPipe() = 1; "
             + "eventBytes() = 3; event() = 'x'; eventPipe() = 0; eventBytes() = 0; " + Edge.noElement("event()")
-            + "eventPipe() = 0; eventBytes() = 0; " + Setup.send(1, 4) + "frame() = 1; eventPipe() = 0; eventBytes() = 0; "
+            + "eventPipe() = 0; eventBytes() = 0; " + Setup.send(1, 4) + "frame() = 1; eventPipe() = 0; "
+            + "eventBytes() = 0; "
             + "event() = 'd'; eventPipe() = 1; eventBytes() = 1; unplug(1) = 1; eventPipe() = 1");
     }
 

@@ -105,7 +105,8 @@ final class EdgePipeTests {
             + "make('l', 0, 1, false, 0) = 7; endpoint(7, 1, true, 6) = 1; plug(7, 5, 2) = 2; look() = 7; "
             + "make('h', 0, 1, false, 0) = 8; endpoint(8, 1, true, 1) = 1; ";
         Script.run("23 open: at most 12, and two exceptions at once", four() + more + opened(0, 10)
-            + "open(6, 1, 'b', 0) = 11; " + Edge.badState("open(4, 3, 'b', 0)", "open(4, 3, 'i', 8)", "open(4, 3, 's', 1)",
+            + "open(6, 1, 'b', 0) = 11; " + Edge.badState("open(4, 3, 'b', 0)", "open(4, 3, 'i', 8)",
+            "open(4, 3, 's', 1)",
                 "open(7, 1, 'b', 0)")
             + Edge.unsupported("open(6, 1, 'b', 0)", "open(7, 1, 'i', 8)", "open(8, 1, 'b', 0)", "open(1, 1, 's', 2)")
             + Edge.badArgument("open(4, 3, 'q', 0)", "open(4, 3, 'i', 0)", "open(7, 1, 's', 16)")
@@ -186,11 +187,13 @@ final class EdgePipeTests {
                     .append(pipe).append("; ");
             }
             Script.run("25 phaseOf: at most 80 reserved units of the host, " + greatest, text
-                + "unplug(3) = 1; make('h', 0, 1, false, 0) = 4; endpoint(4, 1, true, 8) = 1; endpoint(4, 2, true, 6) = 2; "
+                + "unplug(3) = 1; make('h', 0, 1, false, 0) = 4; endpoint(4, 1, true, 8) = 1; "
+                + "endpoint(4, 2, true, 6) = 2; "
                 + "endpoint(4, 3, false, " + greatest + ") = 3; plug(4, 0, 2) = 1; look() = 4; open(4, 1, 'i', 1) = 6; "
                 + "reserved(3, -1) = 70; open(4, 2, 'i', 8) = 7; reserved(0, -1) = 78; open(4, 3, 's', 1) "
                 + "throws UnsupportedOperationException; close(7) = 0; open(4, 3, 's', 1) = 7; reserved(7, -1) = "
-                + (72 + greatest) + "; " + (greatest == 8 ? Edge.unsupported("open(4, 2, 'i', 8)") : "isSound() = true"));
+                + (72 + greatest) + "; "
+                + (greatest == 8 ? Edge.unsupported("open(4, 2, 'i', 8)") : "isSound() = true"));
         }
     }
 
@@ -287,12 +290,14 @@ final class EdgePipeTests {
     private static void cancel() {
         Script.run("32 cancel: the first one, while there is one", Setup.device(1, 'h', 0, 8, -1)
             + "open(1, 2, 'i', 1) = 0; " + Edge.unsupported("cancel(0)") + Edge.noElement("cancel(1)", "cancel(-1)")
-            + Setup.send(0, 1, 2, 3) + "type(4) = 1; type(5) = 2; send(0) = 2; frame() = 1; frame() = 1; cancel(0) = 2; "
+            + Setup.send(0, 1, 2, 3) + "type(4) = 1; type(5) = 2; send(0) = 2; frame() = 1; frame() = 1; "
+            + "cancel(0) = 2; "
             + Setup.event('x', 0, 2) + "frame() = 0; ring(0) = 1; frame() = 1; takenAt(1, 2, 0) = 4; cancel(0) = 1; "
             + Setup.event('x', 0, 1) + Edge.unsupported("cancel(0)") + "events() = 0; frame() = 0; taken(1, 2) = 3");
         Script.run("32 cancel: no more than the first of 4", Setup.device(1, 'h', 0, 8, -8) + "open(1, 1, 'b', 0) = 0; "
             + Edge.forNumbers(1, 4, "ask(0, %s) = %s; ") + "cancel(0) = 0; events() = 1; clear(0) = 3; cancel(0) = 0; "
-            + "cancel(0) = 0; clear(0) = 1; cancel(0) = 0; " + Edge.unsupported("cancel(0)") + "events() = 4; clear(0) = 0");
+            + "cancel(0) = 0; clear(0) = 1; cancel(0) = 0; " + Edge.unsupported("cancel(0)") + "events() = 4; "
+            + "clear(0) = 0");
     }
 
     private static void thirtyTwoWaiting() {
@@ -338,12 +343,14 @@ final class EdgePipeTests {
             Script.run("34 fault: in place of one told before, " + kind, Setup.device(1, 'h', 0, 8, 0, -8)
                 + "fault(1, 0, '" + kind + nine + "0; fault(1, 1, '" + kind + one + "0; fault(1, 3, '" + kind + nine
                 + "0; fault(1, 0, '" + kind + one + "9; fault(1, 1, '" + kind + nine + "1; fault(1, 3, 'c" + one
-                + "9; fault(1, 3, '" + kind + nine + "1; unplug(1) = 1; fault(1, 0, '" + kind + nine + "1; fault(1, 1, '"
+                + "9; fault(1, 3, '" + kind + nine + "1; unplug(1) = 1; fault(1, 0, '" + kind + nine + "1; "
+                + "fault(1, 1, '"
                 + kind + one + "9; plug(1, 0, 0) = 1; fault(1, 3, '" + kind + one + "9; fault(1, 0, '" + kind + one
                 + "9");
         }
         Script.run("34 fault: two exceptions at once", Setup.device(1, 'h', 0, 8)
-            + Edge.badIndex("fault(0, 0, 'q', 1)", "fault(0, 1, 'c', 0)", "fault(2, 0, 'q', 0)", "fault(-1, 0, 'c', 10)",
+            + Edge.badIndex("fault(0, 0, 'q', 1)", "fault(0, 1, 'c', 0)", "fault(2, 0, 'q', 0)",
+            "fault(-1, 0, 'c', 10)",
                 "fault(1, 2, 'q', 1)", "fault(1, 4, 'c', 0)", "fault(1, -1, 'c', 10)", "fault(2, 1, 'c', 10)"));
     }
 

@@ -17,9 +17,11 @@ final class EdgeSnifferTests {
         for (String name : new String[] {"taken", "takenAt"}) {
             String last = name.equals("taken") ? ")" : ", 0)";
             String bad = name.equals("taken") ? ")" : ", -1)";
-            Script.run("43 and 44: the device and the endpoint, " + name, Setup.zoo() + Edge.index(name + "(%s, 2" + last,
+            Script.run("43 and 44: the device and the endpoint, " + name, Setup.zoo() + Edge.index(name + "(%s, 2"
+                + last,
                     1, 7)
-                + Edge.badIndex(name + "(0, 2" + last, name + "(0, 1" + last, name + "(1, 3" + last, name + "(7, 3" + bad,
+                + Edge.badIndex(name + "(0, 2" + last, name + "(0, 1" + last, name + "(1, 3" + last, name + "(7, 3"
+                + bad,
                     name + "(8, 1" + bad)
                 + Edge.index(name + "(1, %s" + last, 1, 3) + Edge.forNumbers(1, 7,
                     name + "(%s, 1" + last + " throws UnsupportedOperationException; " + name + "(%s, 1" + bad
@@ -59,8 +61,10 @@ final class EdgeSnifferTests {
     }
 
     private static void whatIsCounted() {
-        Script.run("48 packets: t, d or h", Setup.device(1, 'h', 0, -8, 8) + Edge.forSigns("abcegisuxzTDH0 \u0000\uffff",
-            "packets('%s') throws IllegalArgumentException; ") + "packets('t') = 5; packets('d') = 0; packets('h') = 0; "
+        Script.run("48 packets: t, d or h", Setup.device(1, 'h', 0, -8, 8)
+            + Edge.forSigns("abcegisuxzTDH0 \u0000\uffff",
+            "packets('%s') throws IllegalArgumentException; ") + "packets('t') = 5; packets('d') = 0; "
+                + "packets('h') = 0; "
             + "open(1, 1, 'b', 0) = 0; " + Setup.send(0, 1) + "frame() = 1; packets('t') = 6; packets('d') = 1; "
             + "packets('h') = 1; frame() = 0; packets('t') = 6");
     }
@@ -72,7 +76,8 @@ final class EdgeSnifferTests {
             + "fault(1, 0, 't', 3) = 0; look() = 1; blame(1) = 1; stateOf(1) = 'x'");
         Script.run("49 blame: a lie out of the host or in a sound pipe is none", Setup.device(1, 'h', 0, -8, 8, 8)
             + "open(1, 1, 'b', 0) = 0; open(1, 2, 's', 1) = 1; open(1, 3, 'b', 0) = 2; fault(1, 1, 't', 1) = 0; "
-            + "fault(1, 2, 't', 1) = 0; " + Setup.send(0, 1) + Setup.load(1, 2, 1, 1) + Setup.ask(1, 1) + "frame() = 2; "
+            + "fault(1, 2, 't', 1) = 0; " + Setup.send(0, 1) + Setup.load(1, 2, 1, 1) + Setup.ask(1, 1)
+            + "frame() = 2; "
             + "blame(1) = 0; fault(1, 3, 't', 2) = 0; " + Setup.ask(2, 1) + "frame() = 2; blame(1) = 0; "
             + Setup.load(1, 3, 1, 1) + "frame() = 2; blame(1) = 1; stateOf(1) = 'c'");
         StringBuilder many = new StringBuilder(Setup.device(1, 'h', 0) + "draw(1, 6) = 1; ");
@@ -85,7 +90,8 @@ final class EdgeSnifferTests {
 
     private static void checksumOfDevices() {
         long host = 31 * 7 + 'c';
-        Script.run("53 checksum: the host's hub alone, then more", "checksum() = " + host + "; make('h', 0, 1, false, 0) = 1; "
+        Script.run("53 checksum: the host's hub alone, then more", "checksum() = " + host + "; "
+            + "make('h', 0, 1, false, 0) = 1; "
             + "checksum() = " + (31 * host + 'u') + "; plug(1, 0, 0) = 1; checksum() = " + (31 * host + 'n')
             + "; look() = 1; checksum() = " + (31 * host + 'c' + 1) + "; sleep(1) = 1; checksum() = "
             + (31 * host + 'z' + 1) + "; wake(1) = 1; draw(1, 9) = 1; frame() = 0; checksum() = "

@@ -146,13 +146,16 @@ final class EdgeTransferTests {
             + "isHalted(1) = false; frame() = 1; isHalted(1) = true; event() = 'e'");
         Script.run("two failures, one that was taken before and is acknowledged, and two again", PAIR
             + "fault(1, 1, 'a', 2) = 0; " + Setup.load(1, 1, 2, 1, 2) + Setup.ask(0, 2) + "frame() = 1; event() = 'd'; "
-            + Setup.ask(0, 3) + "frame() = 1; frame() = 2; got() = 2; fault(1, 1, 'c', 2) = 0; frame() = 1; frame() = 1; "
-            + "isHalted(0) = false; fault(1, 1, 'c', 1) = 0; frame() = 1; isHalted(0) = true; " + Setup.event('e', 0, 0));
+            + Setup.ask(0, 3) + "frame() = 1; frame() = 2; got() = 2; fault(1, 1, 'c', 2) = 0; frame() = 1; "
+            + "frame() = 1; "
+            + "isHalted(0) = false; fault(1, 1, 'c', 1) = 0; frame() = 1; isHalted(0) = true; "
+            + Setup.event('e', 0, 0));
         Script.run("three by unlike faults are a row, too", PAIR + "fault(1, 2, 't', 1) = 0; " + Setup.send(1, 7)
             + "frame() = 1; fault(1, 2, 'b', 1) = 0; frame() = 1; fault(1, 2, 'a', 1) = 0; isHalted(1) = false; "
             + "frame() = 1; isHalted(1) = true; causeOf(1) = 'a'; taken(1, 2) = 1");
         Script.run("each pipe has a row of its own", PAIR + "fault(1, 1, 'c', 2) = 0; fault(1, 2, 'c', 2) = 0; "
-            + Setup.ask(0, 1) + Setup.send(1, 1) + "frame() = 2; frame() = 2; isHalted(0) = false; isHalted(1) = false; "
+            + Setup.ask(0, 1) + Setup.send(1, 1) + "frame() = 2; frame() = 2; isHalted(0) = false; "
+            + "isHalted(1) = false; "
             + "fault(1, 2, 'c', 1) = 0; frame() = 2; isHalted(0) = false; isHalted(1) = true");
     }
 
@@ -180,8 +183,10 @@ final class EdgeTransferTests {
     private static void soundNeverHalts() {
         String both = Setup.device(1, 'h', 0, 1, -1) + "open(1, 1, 's', 1) = 0; open(1, 2, 's', 1) = 1; ";
         for (char kind : new char[] {'c', 'd', 'a', 'n', 's', 'b', 't'}) {
-            Script.run("nine faults in a row in a sound pipe out, " + kind, both + "fault(1, 2, '" + kind + "', 9) = 0; "
-                + Edge.typed(16) + "send(1) = 1; ring(1) = 1; " + Edge.forNumbers(1, 9, "frame() = 1; taken(1, 2) = 0; ")
+            Script.run("nine faults in a row in a sound pipe out, " + kind, both + "fault(1, 2, '" + kind
+                + "', 9) = 0; "
+                + Edge.typed(16) + "send(1) = 1; ring(1) = 1; " + Edge.forNumbers(1, 9, "frame() = 1; "
+                + "taken(1, 2) = 0; ")
                 + Edge.forNumbers(1, 7, "events() = 0; frame() = 1; taken(1, 2) = %s; ") + "isHalted(1) = false; "
                 + "packets('h') = 0; blame(1) = 0; stateOf(1) = 'c'; " + Setup.event('l', 1, 16)
                 + "causeOf(1) throws UnsupportedOperationException");
@@ -193,6 +198,11 @@ final class EdgeTransferTests {
                     + "packets('h') = 0; blame(1) = 0; stateOf(1) = 'c'; " + Setup.event('l', 0, 16));
             }
         }
+        Script.run("silence in a sound pipe is 'not yet', however often", both + Setup.ask(0, 2)
+            + Edge.forNumbers(1, 9, "frame() = 1; left(-1) = 97; events() = 0; isHalted(0) = false; ")
+            + "packets('d') = 0; packets('h') = 0; " + Setup.load(1, 1, 2, 3, 4) + "frame() = 1; frame() = 1; "
+            + "got() = 2; "
+            + Setup.event('d', 0, 2));
         Script.run("a transfer that lost nothing, behind one that did", both + "fault(1, 2, 'c', 1) = 0; "
             + Setup.send(1, 1) + "type(2) = 1; send(1) = 2; ring(1) = 1; frame() = 1; frame() = 1; "
             + Setup.event('l', 1, 1) + Setup.event('d', 1, 1) + "taken(1, 2) = 1; takenAt(1, 2, 0) = 2");
@@ -205,7 +215,8 @@ final class EdgeTransferTests {
         StringBuilder text = new StringBuilder(bulk(8, 8));
         for (int value = 0; value <= 255; value++) {
             if (value % 16 == 15) {
-                text.append("type(").append(value).append(") = 16; send(1) = 1; ring(1) = 1; frame() = 2; event() = 'd'; ")
+                text.append("type(").append(value).append(") = 16; send(1) = 1; ring(1) = 1; frame() = 2; "
+                    + "event() = 'd'; ")
                     .append("takenAt(1, 2, 15) = ").append(value - 15).append("; takenAt(1, 2, 0) = ").append(value)
                     .append("; ");
             } else {
@@ -222,7 +233,8 @@ final class EdgeTransferTests {
             String fault = part[0].equals("-") ? "" : "fault(1, 1, '" + part[0] + "', 1) = 0; ";
             Script.run(title + ", fault " + part[0], setup + fault + "frame() = 1; packets('t') = 6; packets('d') = "
                 + part[1] + "; packets('h') = " + part[2] + "; " + counted.replace("%a", part[3]).replace("%b", part[4])
-                + "blame(1) = " + part[5] + "; stateOf(1) = '" + (part[0].equals("b") && part[5].equals("1") ? 's' : 'c')
+                + "blame(1) = " + part[5] + "; stateOf(1) = '"
+                + (part[0].equals("b") && part[5].equals("1") ? 's' : 'c')
                 + "'; events() = " + (part[6].equals("-") ? 0 : 1) + "; "
                 + (part[6].equals("-") ? "event() throws NoSuchElementException" : "event() = '" + part[6] + "'"));
         }
@@ -274,7 +286,8 @@ final class EdgeTransferTests {
         for (char kind : new char[] {'b', 'i'}) {
             Script.run("a halted pipe does nothing until it is cleared, " + kind, Setup.device(1, 'h', 0, -4)
                 + "open(1, 1, '" + kind + "', 1) = 0; fault(1, 1, 's', 1) = 0; " + Setup.send(0, 9)
-                + Edge.forNumbers(2, 4, "type(%s) = 1; send(0) = %s; ") + "ring(0) = 3; frame() = 1; event() = 's'; isHalted(0) = true; "
+                + Edge.forNumbers(2, 4, "type(%s) = 1; send(0) = %s; ") + "ring(0) = 3; frame() = 1; event() = 's'; "
+                + "isHalted(0) = true; "
                 + Edge.forNumbers(1, 5, "frame() = 0; events() = 0; ") + "clear(0) = 3; isHalted(0) = false; frame() = "
                 + (kind == 'b' ? 3 : 1) + "; taken(1, 1) = " + (kind == 'b' ? 3 : 1));
         }
