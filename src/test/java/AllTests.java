@@ -6,6 +6,7 @@ public final class AllTests {
     public static void main(String[] arguments) throws Exception {
         String root = arguments.length > 0 ? arguments[0] : ".";
         FaceTests.run(root);
+        DocumentTests.run(root);
         DeviceTests.run();
         ByteTests.run();
         PipeTests.run();
@@ -18,6 +19,8 @@ public final class AllTests {
         EdgeTransferTests.run();
         EdgeFrameTests.run();
         EdgeSnifferTests.run();
+        MeetEndTests.run();
+        MeetStateTests.run();
         RandomTests.run();
         System.out.println(Check.sum());
         if (!Check.isAllWell()) {
