@@ -21,6 +21,7 @@ public final class AllTests {
         EdgeSnifferTests.run();
         MeetEndTests.run();
         MeetStateTests.run();
+        MeetWornTests.run();
         RandomTests.run();
         System.out.println(Check.sum());
         if (!Check.isAllWell()) {

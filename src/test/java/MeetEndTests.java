@@ -193,7 +193,8 @@ final class MeetEndTests {
                 + (kind == 'n' ? 1 : 0) + "; frame() = 1; got() = 2; waiting(1, 1) = 2; " + Setup.event('h', 0, 2));
         }
         Script.run("sent again, then taken, and sent again", once + "fault(1, 1, 'a', 1) = 0; frame() = 1; got() = 2; "
-            + Setup.event('h', 0, 2) + "waiting(1, 1) = 4; " + Setup.ask(0, 2) + "frame() = 2; got() = 4; gotAt(0) = 4; "
+            + Setup.event('h', 0, 2) + "waiting(1, 1) = 4; " + Setup.ask(0, 2) + "frame() = 2; got() = 4; "
+            + "gotAt(0) = 4; "
             + "waiting(1, 1) = 0; " + Setup.event('d', 0, 2));
         Script.run("sent again, and a lie in its place", once + "fault(1, 1, 't', 1) = 0; frame() = 2; got() = 2; "
             + "gotAt(0) = 4; gotAt(1) = 3; blame(1) = 1; waiting(1, 1) = 0; " + Setup.event('h', 0, 2));

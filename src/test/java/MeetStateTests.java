@@ -69,7 +69,8 @@ final class MeetStateTests {
             make('h', 2, 1, false, 0) = 1; endpoint(1, 1, false, 8) = 1; make('f', 0, 1, false, 0) = 2;
             endpoint(2, 1, false, 8) = 1; make('h', 1, 1, false, 0) = 3; make('f', 0, 1, false, 0) = 4;
             endpoint(4, 2, true, 8) = 1; plug(1, 0, 0) = 1; look() = 1; plug(2, 1, 0) = 2; look() = 2;
-            plug(3, 1, 1) = 2; look() = 3; plug(4, 3, 0) = 3; look() = 4; open(4, 2, 'i', 4) = 0; open(2, 1, 'b', 0) = 1;
+            plug(3, 1, 1) = 2; look() = 3; plug(4, 3, 0) = 3; look() = 4; open(4, 2, 'i', 4) = 0;
+            open(2, 1, 'b', 0) = 1;
             open(1, 1, 's', 8) = 2; reserved(0, -1) = 10; reserved(1, -1) = 10; reserved(0, 3) = 20; ask(0, 1) = 1;
             ask(0, 2) = 2; type(1) = 1; send(1) = 1; type(2) = 1; send(2) = 1; draw(1, 6) = 1; frame() = 0;
             stateOf(1) = 's'; stateOf(2) = 'u'; stateOf(3) = 'u'; stateOf(4) = 'u'; hubOf(4) = -1; blame(1) = 1;
@@ -214,7 +215,8 @@ final class MeetStateTests {
             driver(0, 0) = 0; make('h', 2, 1, false, 0) = 1; make('h', 1, 2, false, 0) = 2; endpoint(2, 1, true, 8) = 1;
             make('h', 0, 1, false, 0) = 3; plug(1, 0, 0) = 1; look() = 1; plug(2, 1, 1) = 2; draw(2, 1) = 2; look() = 2;
             stateOf(2) = 'p'; addressOf(2) = 2; driverOf(2) = -1; plug(3, 2, 0) = 3;
-            look() throws NoSuchElementException; open(2, 1, 'b', 0) throws UnsupportedOperationException; draw(2, 9) = 1;
+            look() throws NoSuchElementException; open(2, 1, 'b', 0) throws UnsupportedOperationException;
+            draw(2, 9) = 1;
             frame() = 0; stateOf(2) = 'p'; blame(2) = 0; type(1) = 1; load(2, 1) = 1; sleep(1) = 1; stateOf(2) = 'p';
             wake(2) throws UnsupportedOperationException; wake(1) = 1; unplug(2) = 2; addressOf(2) = 0;
             stateOf(3) = 'u'; draw(2, 1) = 9; plug(2, 0, 1) = 1; look() = 2; stateOf(2) = 'c'; driverOf(2) = 0;
@@ -225,7 +227,8 @@ final class MeetStateTests {
     private static void newWithAll() {
         Script.run("a new device has no address and no driver, and is not looked at for what it draws", """
             driver(0, 0) = 0; make('f', 1, 1, false, 0) = 1; endpoint(1, 1, true, 8) = 1; make('h', 0, 1, false, 0) = 2;
-            plug(1, 0, 0) = 1; plug(2, 1, 0) = 2; stateOf(1) = 'n'; addressOf(1) = 0; driverOf(1) = -1; speedOf(1) = 'f';
+            plug(1, 0, 0) = 1; plug(2, 1, 0) = 2; stateOf(1) = 'n'; addressOf(1) = 0; driverOf(1) = -1;
+            speedOf(1) = 'f';
             speedOf(2) = 'f'; translator(2) = 0; draw(1, 9) = 1; frame() = 0; stateOf(1) = 'n'; blame(1) = 0;
             open(1, 1, 'b', 0) throws UnsupportedOperationException; sleep(1) throws UnsupportedOperationException;
             wake(1) throws UnsupportedOperationException; type(1) = 1; load(1, 1) = 1; look() = 1; stateOf(1) = 'c';
@@ -261,7 +264,8 @@ final class MeetStateTests {
         Script.run("unplugged with all below, in each state; their pipes are closed by the pipes' numbers", """
             make('h', 4, 1, true, 0) = 1; make('h', 0, 1, false, 0) = 2; endpoint(2, 1, true, 8) = 1;
             make('h', 1, 1, true, 0) = 3; endpoint(3, 1, true, 8) = 1; make('h', 0, 1, false, 0) = 4;
-            endpoint(4, 1, true, 8) = 1; make('h', 0, 1, false, 0) = 5; plug(1, 0, 0) = 1; look() = 1; plug(2, 1, 0) = 2;
+            endpoint(4, 1, true, 8) = 1; make('h', 0, 1, false, 0) = 5; plug(1, 0, 0) = 1; look() = 1;
+            plug(2, 1, 0) = 2;
             plug(3, 1, 1) = 2; look() = 2; look() = 3; plug(4, 3, 0) = 3; look() = 4; plug(5, 1, 2) = 2;
             open(4, 1, 'b', 0) = 0; open(2, 1, 'b', 0) = 1; open(3, 1, 'b', 0) = 2; close(0) = 0; close(1) = 0;
             open(2, 1, 'b', 0) = 0; open(4, 1, 'b', 0) = 1; ask(2, 1) = 1; ask(1, 1) = 1; ask(1, 2) = 2; ask(0, 1) = 1;
@@ -277,9 +281,11 @@ final class MeetStateTests {
         Script.run("cleared while it is shut", once + "draw(1, 6) = 1; frame() = 0; stateOf(1) = 's'; "
             + "isHalted(1) = true; causeOf(1) = 's'; clear(1) = 1; isHalted(1) = false; causeOf(1) = 's'; ring(1) = 1; "
             + "frame() = 0; cancel(1) = 0; clear(1) = 0");
-        Script.run("cleared while it is asleep", once + "cancel(1) = 0; event() = 'x'; sleep(1) = 1; isHalted(1) = true; "
+        Script.run("cleared while it is asleep", once + "cancel(1) = 0; event() = 'x'; sleep(1) = 1; "
+            + "isHalted(1) = true; "
             + Setup.send(1, 3) + "wake(1) = 1; frame() = 0; frame() = 0; clear(1) = 1; frame() = 1; taken(1, 2) = 1");
-        Script.run("cleared while it is not awake yet", once + "cancel(1) = 0; sleep(1) = 1; wake(1) = 1; clear(1) = 0; "
+        Script.run("cleared while it is not awake yet", once + "cancel(1) = 0; sleep(1) = 1; wake(1) = 1; "
+            + "clear(1) = 0; "
             + Setup.send(1, 3) + "frame() = 0; frame() = 1; taken(1, 2) = 1");
         Script.run("cleared while nothing is wrong: what waits there stays, and stays rung", once + "clear(1) = 1; "
             + "clear(1) = 1; frame() = 0; ring(1) = 1; clear(1) = 1; frame() = 1; taken(1, 2) = 1");

@@ -7,12 +7,12 @@ import java.util.Random;
  * be the same, a call that throws changes nothing, and everything that can be read agrees again and again.
  */
 final class RandomTests {
-    private static final int RUNS = 300;
+    private static final int RUNS = 800;
     private static final int CALLS = 512;
     private static final String[] WORK = {"transfer", "transfer", "transfer", "load", "load", "ring", "frame", "frame",
         "frame", "frame", "frame", "frame", "frame", "frame", "event", "event", "event", "fault", "fault", "clear"};
     private static final String[] CHANGE = {"plug", "plug", "plug", "look", "look", "look", "open", "open", "open",
-        "open", "close", "unplug", "sleep", "sleep", "wake", "draw", "cancel", "cancel", "wipe", "driver", "type"};
+        "open", "close", "unplug", "nap", "nap", "sleep", "wake", "draw", "cancel", "cancel", "wipe", "driver", "type"};
     private static final int[] ODD = {-1, 0, 1, 2, 3, 4, 5, 7, 8, 11, 12, 15, 16, 17, 32, 99, 255, 256, 2047, 2048,
         Integer.MIN_VALUE, Integer.MAX_VALUE};
 
@@ -46,7 +46,7 @@ final class RandomTests {
         }
         for (int i = 0; calls < CALLS && isSame; i++) {
             step();
-            if (i % 32 == 0) {
+            if (i % 96 == 0) {
                 compare("picture after " + calls, Calls.picture(bus), Calls.picture(model));
             }
         }
@@ -129,6 +129,21 @@ final class RandomTests {
         call("fault", point[0], number, "cdansbtcdatcdat".charAt(random.nextInt(15)), 1 + random.nextInt(4));
     }
 
+    /** Takes what a device has to do away, so that it can be put asleep, and wakes one. */
+    private void nap() {
+        int device = deviceIn('c');
+        for (int[] pipe : List.copyOf(pipes)) {
+            for (int i = 0; i < 4 && pipe[1] == device; i++) {
+                call("cancel", pipe[0]);
+            }
+        }
+        call("sleep", device);
+        if (random.nextInt(4) > 0) {
+            callByName(random.nextBoolean() ? "transfer" : "frame");
+            call("wake", random.nextBoolean() ? device : deviceIn('z'));
+        }
+    }
+
     private void callByName(String name) {
         switch (name) {
             case "transfer" -> transfer();
@@ -141,6 +156,7 @@ final class RandomTests {
             case "unplug" -> call(name, device());
             case "sleep" -> call(name, deviceIn('c'));
             case "wake" -> call(name, deviceIn('z'));
+            case "nap" -> nap();
             case "draw" -> call(name, device(), random.nextInt(4) == 0 ? 6 : random.nextInt(6));
             case "driver" -> call(name, random.nextInt(10), random.nextInt(11) - 1);
             default -> call(name);
@@ -216,7 +232,7 @@ final class RandomTests {
         }
         calls++;
         said.append(name).append(java.util.Arrays.toString(arguments));
-        String before = random.nextInt(20) == 0 ? Calls.picture(bus) : "";
+        String before = random.nextInt(80) == 0 ? Calls.picture(bus) : "";
         String got = Calls.answer(bus, name, arguments);
         said.append(" = ").append(got).append("\n");
         compare(name, got, Calls.answer(model, name, arguments));
