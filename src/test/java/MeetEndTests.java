@@ -22,6 +22,7 @@ final class MeetEndTests {
         sentAgainOverStates();
         sentAgainAndFaults();
         sentAgainByInterrupt();
+        haltedBehindPacket();
         notTakenAgain();
     }
 
@@ -86,7 +87,7 @@ final class MeetEndTests {
         String unhalted = "isHalted(0) = false; causeOf(0) throws UnsupportedOperationException; waiting(1, 1) = 2; ";
         Script.run("the third failure by 'a', and all bytes are done", two + Setup.ask(0, 2) + third
             + Setup.event('d', 0, 2) + unhalted + Setup.load(1, 1, 3, 3) + Setup.ask(0, 1) + "frame() = 2; "
-            + Setup.event('d', 0, 1) + "got() = 3; isHalted(0) = false");
+            + Setup.event('d', 0, 1) + "got() = 3; gotAt(0) = 3; waiting(1, 1) = 0; isHalted(0) = false");
         Script.run("the third failure by 'a', and the packet was a short one", two + Setup.ask(0, 3) + third
             + Setup.event('h', 0, 2) + unhalted);
         Script.run("the third failure by 'a', and bytes are still asked for", PAIR + "fault(1, 1, 'd', 2) = 0; "
@@ -211,6 +212,22 @@ final class MeetEndTests {
             frame() = 0; frame() = 1; left(-1) = 96; left(0) = 52; got() = 2; event() = 'h'; eventBytes() = 2;
             ask(0, 1) = 1; ring(0) = 1; frame() = 0; frame() = 1; left(0) = 54; got() = 3; event() = 'd'.
             """);
+    }
+
+    private static void haltedBehindPacket() {
+        Script.run("halted behind a packet that was not acknowledged, and opened anew", PAIR
+            + "fault(1, 1, 'd', 3) = 0; "
+            + Setup.load(1, 1, 5, 1, 2, 3, 4, 5) + "ask(0, 2) = 1; ask(0, 3) = 2; ring(0) = 2; frame() = 1; "
+            + "frame() = 1; "
+            + "frame() = 1; isHalted(0) = true; causeOf(0) = 'd'; " + Setup.event('e', 0, 0) + "close(0) = 1; "
+            + Setup.event('x', 0, 0) + "open(1, 1, 'i', 1) = 0; isHalted(0) = false; causeOf(0) throws "
+            + "UnsupportedOperationException; waiting(1, 1) = 5; " + Setup.ask(0, 5) + "frame() = 1; got() = 4; "
+            + "frame() = 1; "
+            + "gotAt(0) = 5; " + Setup.event('d', 0, 5));
+        Script.run("halted behind a packet that was not acknowledged, and cleared", PAIR + "fault(1, 1, 'd', 3) = 0; "
+            + Setup.load(1, 1, 4, 1, 2, 3, 4) + "ask(0, 2) = 1; ask(0, 3) = 2; ring(0) = 2; frame() = 1; frame() = 1; "
+            + "frame() = 1; clear(0) = 1; frame() = 1; left(-1) = 95; got() = 3; waiting(1, 1) = 1; "
+            + Setup.event('e', 0, 0) + Setup.event('d', 0, 3) + "causeOf(0) = 'd'");
     }
 
     private static void notTakenAgain() {

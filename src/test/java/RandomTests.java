@@ -12,7 +12,8 @@ final class RandomTests {
     private static final String[] WORK = {"transfer", "transfer", "transfer", "load", "load", "ring", "frame", "frame",
         "frame", "frame", "frame", "frame", "frame", "frame", "event", "event", "event", "fault", "fault", "clear"};
     private static final String[] CHANGE = {"plug", "plug", "plug", "look", "look", "look", "open", "open", "open",
-        "open", "close", "unplug", "nap", "nap", "sleep", "wake", "draw", "cancel", "cancel", "wipe", "driver", "type"};
+        "open", "close", "unplug", "nap", "nap", "sleep", "wake", "draw", "cancel", "cancel", "wipe", "driver", "type",
+        "device"};
     private static final int[] ODD = {-1, 0, 1, 2, 3, 4, 5, 7, 8, 11, 12, 15, 16, 17, 32, 99, 255, 256, 2047, 2048,
         Integer.MIN_VALUE, Integer.MAX_VALUE};
 
@@ -57,7 +58,7 @@ final class RandomTests {
     private void makeDevice() {
         char speed = "lffhhhh".charAt(random.nextInt(7));
         int ports = speed == 'l' || random.nextInt(3) == 0 ? 0 : 1 + random.nextInt(4);
-        call("make", speed, ports, 1 + random.nextInt(3), random.nextBoolean(), random.nextInt(100));
+        call("make", speed, ports, 1 + random.nextInt(3), random.nextBoolean(), 10 * few() + few());
         made++;
         int endpoints = 1 + random.nextInt(3);
         for (int number = 1; number <= endpoints; number++) {
@@ -67,11 +68,21 @@ final class RandomTests {
         }
     }
 
+    private void lateDevice() {
+        if (made < 15) {
+            makeDevice();
+        } else {
+            call("make", 'f', 1, 1, true, 0);
+        }
+    }
+
     private void setUp() {
-        int what = random.nextInt(3);
+        int what = random.nextInt(20);
         if (what == 0) {
+            callByName("driver");
+        } else if (what < 7) {
             call("plug", device(), random.nextInt(3) == 0 ? 0 : device(), random.nextInt(4));
-        } else if (what == 1) {
+        } else if (what < 14) {
             call("look");
         } else {
             open();
@@ -157,8 +168,9 @@ final class RandomTests {
             case "sleep" -> call(name, deviceIn('c'));
             case "wake" -> call(name, deviceIn('z'));
             case "nap" -> nap();
+            case "device" -> lateDevice();
             case "draw" -> call(name, device(), random.nextInt(4) == 0 ? 6 : random.nextInt(6));
-            case "driver" -> call(name, random.nextInt(10), random.nextInt(11) - 1);
+            case "driver" -> call(name, few(), random.nextInt(3) == 0 ? -1 : few());
             default -> call(name);
         }
     }
@@ -216,6 +228,11 @@ final class RandomTests {
                 pipes.add(new int[] {number, point[0], point[1], point[2]});
             }
         }
+    }
+
+    /** A class or a subclass, of two mostly, so that drivers fit. */
+    private int few() {
+        return random.nextInt(4) == 0 ? random.nextInt(10) : random.nextInt(2);
     }
 
     private int odd() {
